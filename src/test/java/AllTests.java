@@ -1,0 +1,23 @@
+/** Runs all tests of the project; the last line is their count. */
+public final class AllTests {
+    private AllTests() {
+    }
+
+    public static void main(String[] args) {
+        Suite suite = new Suite();
+        BuildingTests.addTo(suite);
+        DecisionTests.addTo(suite);
+        ProductTests.addTo(suite);
+        CandidateTests.addTo(suite);
+        PairTests.addTo(suite);
+        FaceTests.addTo(suite);
+        RandomTests.addTo(suite);
+        for (String failure : suite.failures()) {
+            System.out.println("FAILED " + failure);
+        }
+        System.out.println(suite.passed() + " passed, " + suite.failures().size() + " failed");
+        if (!suite.failures().isEmpty()) {
+            System.exit(1);
+        }
+    }
+}
