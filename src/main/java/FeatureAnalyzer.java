@@ -884,8 +884,6 @@ public final class FeatureAnalyzer {
      * is not there (its number + 12); a pair is two literals of different features.
      */
     private static final class PairBoard {
-        private static final int EVERY = (1 << MAX_FEATURES) - 1;
-
         // For each literal the literals of later features that it has been shown with.
         private final int[] shown = new int[2 * MAX_FEATURES];
 
@@ -893,12 +891,14 @@ public final class FeatureAnalyzer {
             Arrays.fill(shown, 0);
         }
 
+        /** How many pairs of a configuration have not been shown. */
         int countFresh(int configuration, int featureCount) {
-            int literals = literalsOf(configuration, featureCount);
             int fresh = 0;
+            int later = literalsOf(configuration, featureCount);
             for (int f = 0; f < featureCount; f++) {
-                int partners = literals & later(f);
-                fresh += Integer.bitCount(partners & ~shown[literalOn(f, configuration)]);
+                int literal = literalOn(f, configuration);
+                later &= ~(1 << literal);
+                fresh += Integer.bitCount(later & ~shown[literal]);
             }
             return fresh;
         }
@@ -906,9 +906,11 @@ public final class FeatureAnalyzer {
         /** Marks the pairs of a configuration as shown, and tells how many were not before. */
         int show(int configuration, int featureCount) {
             int fresh = countFresh(configuration, featureCount);
-            int literals = literalsOf(configuration, featureCount);
+            int later = literalsOf(configuration, featureCount);
             for (int f = 0; f < featureCount; f++) {
-                shown[literalOn(f, configuration)] |= literals & later(f);
+                int literal = literalOn(f, configuration);
+                later &= ~(1 << literal);
+                shown[literal] |= later;
             }
             return fresh;
         }
@@ -920,11 +922,6 @@ public final class FeatureAnalyzer {
 
         private static int literalOn(int feature, int configuration) {
             return has(configuration, feature) ? feature : feature + MAX_FEATURES;
-        }
-
-        private static int later(int feature) {
-            int numbers = EVERY & ~((2 << feature) - 1);
-            return numbers | (numbers << MAX_FEATURES);
         }
     }
 }

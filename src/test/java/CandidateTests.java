@@ -13,6 +13,7 @@ final class CandidateTests {
         suite.test("27 share divides", CandidateTests::shareDivides);
         suite.test("28 question halves best", CandidateTests::questionHalves);
         suite.test("28 question has no answer where nothing is open", CandidateTests::questionNone);
+        suite.test("29 30 31 33 choose among the candidates alone", CandidateTests::choiceIsOfCandidates);
         suite.test("29 cheapest", CandidateTests::cheapestFound);
         suite.test("30 best", CandidateTests::bestFound);
         suite.test("31 frontSize counts what is unbeaten", CandidateTests::frontSizeCounts);
@@ -133,6 +134,36 @@ final class CandidateTests {
         Check.due(2, y.question());
         y.decide(2, Lines.IN);
         Check.due(-1, y.question());
+    }
+
+    private static void choiceIsOfCandidates() {
+        FeatureAnalyzer x = Lines.flat(3, Lines.MAY);
+        x.setWorth(1, 1, 2);
+        x.setWorth(2, 2, 1);
+        x.setWorth(3, 3, 3);
+        Check.due(1, x.cheapest());
+        Check.due(15, x.best());
+        Check.due(1, x.nearest(0));
+        x.decide(3, Lines.IN);
+        Check.due(9, x.cheapest());
+        Check.due(15, x.best());
+        Check.due(9, x.nearest(0));
+        Check.due(13, x.nearest(Lines.set(2)));
+        x.decide(1, Lines.OUT);
+        Check.due(13, x.best());
+        Check.due(9, x.nearest(Lines.set(1)));
+        Check.due(2, x.frontSize());
+        Check.due(9, x.front(0));
+        FeatureAnalyzer y = Lines.flat(3, Lines.ONE);
+        y.decide(1, Lines.OUT);
+        y.setWorth(1, 1, 5);
+        y.setWorth(2, 9, 4);
+        y.setWorth(3, 2, 4);
+        Check.due(9, y.cheapest());
+        Check.due(9, y.best());
+        y.setWorth(2, 2, 3);
+        Check.due(5, y.cheapest());
+        Check.due(9, y.best());
     }
 
     private static void cheapestFound() {

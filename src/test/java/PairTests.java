@@ -6,6 +6,7 @@ final class PairTests {
     static void addTo(Suite suite) {
         suite.test("34 pairCount counts what candidates show", PairTests::pairCountCounts);
         suite.test("34 pairCount follows each change", PairTests::pairCountFollows);
+        suite.test("34 pairCount is of the candidates alone", PairTests::pairCountOfCandidates);
         suite.test("35 sampleSize", PairTests::sampleSizeCounts);
         suite.test("36 sample takes the most telling one first", PairTests::sampleInOrder);
         suite.test("36 sample shows all pairs that are possible", PairTests::sampleShowsAll);
@@ -13,6 +14,7 @@ final class PairTests {
         suite.test("36 sample follows each change", PairTests::sampleFollows);
         suite.test("37 digest of a new object", PairTests::digestNew);
         suite.test("37 digest takes all numbers in order", PairTests::digestWhole);
+        suite.test("37 digest tells the candidates, not the products", PairTests::digestCandidates);
         suite.test("37 digest changes with each part", PairTests::digestParts);
     }
 
@@ -31,14 +33,42 @@ final class PairTests {
         FeatureAnalyzer x = Lines.flat(2, Lines.MAY);
         x.decide(1, Lines.IN);
         Check.due(5, x.pairCount());
+        Check.due(3, x.sample(0));
         x.decide(2, Lines.OUT);
         Check.due(3, x.pairCount());
+        x.decide(2, Lines.IN);
+        Check.due(3, x.pairCount());
+        x.setRelation(1, Lines.MUST);
+        x.decide(1, Lines.OPEN);
+        Check.due(3, x.pairCount());
+        x.setRelation(1, Lines.MAY);
+        x.addConstraint(Lines.EXCLUDE, 1, 2);
+        x.decide(2, Lines.OPEN);
+        x.decide(1, Lines.OUT);
+        Check.due(5, x.pairCount());
+        x.decide(2, Lines.IN);
+        Check.due(3, x.pairCount());
+        Check.due(5, x.sample(0));
+        x.dropConstraint();
         x.decide(0, Lines.OUT);
         Check.due(0, x.pairCount());
         x.reopen();
         Check.due(8, x.pairCount());
         x.addConstraint(Lines.REQUIRE, 1, 2);
         Check.due(7, x.pairCount());
+    }
+
+    private static void pairCountOfCandidates() {
+        FeatureAnalyzer x = Lines.flat(2, Lines.ONE);
+        x.addFeature(2, Lines.MAY);
+        Check.due(14, x.pairCount());
+        x.decide(1, Lines.OUT);
+        Check.due(9, x.pairCount());
+        x.decide(3, Lines.OUT);
+        Check.due(6, x.pairCount());
+        x.reopen();
+        x.decide(3, Lines.OUT);
+        Check.due(11, x.pairCount());
     }
 
     private static void sampleSizeCounts() {
@@ -130,6 +160,14 @@ final class PairTests {
                 1, 2, 1, 0, 0, 0, 30, 40, 0, 0, 0, 2,
                 2, 1, 0, 2, 0, 0, 3, 1, 1,
                 500, 4, 2, 1, 7), x.digest());
+    }
+
+    private static void digestCandidates() {
+        FeatureAnalyzer x = Lines.flat(1, Lines.MAY);
+        x.decide(1, Lines.IN);
+        Check.due(foldAll(2, 0, 1, 0, 0, 0, 0, 0, 1, 0, -1, 2, 1, 3), x.digest());
+        x.decide(0, Lines.OUT);
+        Check.due(foldAll(2, 0, 1, 0, 0, 2, 0, 0, 1, 0, -1, 2, 0), x.digest());
     }
 
     private static void digestParts() {

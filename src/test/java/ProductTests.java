@@ -22,6 +22,7 @@ final class ProductTests {
         suite.test("19 isFalselyFree wants MAY and a parent that is had", ProductTests::isFalselyFreeEdges);
         suite.test("20 areTogether", ProductTests::areTogetherTells);
         suite.test("21 bundles", ProductTests::bundlesCounts);
+        suite.test("15 to 21 do not depend on decisions and the budget", ProductTests::productsUndecided);
         suite.test("17 to 22 refuse what is no feature", ProductTests::noFeature);
         suite.test("22 blame is empty for what can be had", ProductTests::blameNothing);
         suite.test("22 blame takes as few as can be", ProductTests::blameFewest);
@@ -280,6 +281,40 @@ final class ProductTests {
         Check.due(12, Lines.flat(11, Lines.MAY).bundles());
         Check.due(1, Lines.flat(11, Lines.MUST).bundles());
         Check.due(1, new FeatureAnalyzer().bundles());
+    }
+
+    private static void productsUndecided() {
+        FeatureAnalyzer x = Lines.flat(2, Lines.MAY);
+        x.addFeature(1, Lines.MAY);
+        x.decide(1, Lines.IN);
+        x.decide(2, Lines.IN);
+        x.decide(3, Lines.IN);
+        Check.due(1, x.candidateCount());
+        Check.due(6, x.productCount());
+        Check.due(1, x.product(0));
+        Check.due(false, x.isDead(1));
+        Check.due(false, x.isCore(1));
+        Check.due(false, x.isFalselyFree(2));
+        Check.due(false, x.isFalselyFree(3));
+        Check.due(false, x.areTogether(1, 2));
+        Check.due(4, x.bundles());
+        x.setWorth(0, 1, 0);
+        x.setBudget(0);
+        Check.due(0, x.candidateCount());
+        Check.due(6, x.productCount());
+        Check.due(true, x.isCore(0));
+        Check.due(false, x.isDead(3));
+        Check.due(false, x.areTogether(1, 3));
+        Check.due(4, x.bundles());
+        x.addConstraint(Lines.REQUIRE, 1, 3);
+        Check.due(true, x.isFalselyFree(3));
+        Check.due(false, x.isFalselyFree(2));
+        x.reopen();
+        x.setBudget(-1);
+        x.decide(3, Lines.OUT);
+        Check.due(2, x.candidateCount());
+        Check.due(true, x.isFalselyFree(3));
+        Check.due(false, x.isDead(3));
     }
 
     private static void noFeature() {
