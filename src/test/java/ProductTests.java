@@ -25,6 +25,7 @@ final class ProductTests {
         suite.test("15 to 21 do not depend on decisions and the budget", ProductTests::productsUndecided);
         suite.test("17 to 22 refuse what is no feature", ProductTests::noFeature);
         suite.test("22 blame is empty for what can be had", ProductTests::blameNothing);
+        suite.test("22 blame looks at all of a large line", ProductTests::blameInLargeLine);
         suite.test("22 blame takes as few as can be", ProductTests::blameFewest);
         suite.test("22 blame takes the smallest number of several", ProductTests::blameSmallest);
         suite.test("22 blame leaves out what is off", ProductTests::blameOff);
@@ -337,6 +338,16 @@ final class ProductTests {
         x.addConstraint(Lines.EXCLUDE, 1, 6);
         Check.due(0, x.blame(5));
         Check.due(1, x.blame(6));
+    }
+
+    private static void blameInLargeLine() {
+        FeatureAnalyzer x = Lines.flat(11, Lines.MAY);
+        x.addConstraint(Lines.EXCLUDE, 0, 5);
+        x.addConstraint(Lines.REQUIRE, 11, 5);
+        Check.due(0, x.blame(10));
+        Check.due(1, x.blame(5));
+        Check.due(1, x.blame(11));
+        Check.due(512, x.productCount());
     }
 
     private static void blameFewest() {
