@@ -10,7 +10,15 @@ public final class AllTests {
         ProductTests.addTo(suite);
         CandidateTests.addTo(suite);
         PairTests.addTo(suite);
+        DescriptionEdges.addTo(suite);
+        BuildingEdges.addTo(suite);
+        DecisionEdges.addTo(suite);
+        ProductEdges.addTo(suite);
+        CandidateEdges.addTo(suite);
+        PairEdges.addTo(suite);
+        CallLimitTests.addTo(suite);
         FaceTests.addTo(suite);
+        FormTests.addTo(suite);
         RandomTests.addTo(suite);
         for (String failure : suite.failures()) {
             System.out.println("FAILED " + failure);

@@ -26,6 +26,18 @@ final class Check {
         }
     }
 
+    /** Tells the first line that is not the one that is due. */
+    static void dueText(String want, String got) {
+        String[] wanted = want.split("\n");
+        String[] told = got.split("\n");
+        for (int i = 0; i < wanted.length && i < told.length; i++) {
+            if (!wanted[i].equals(told[i])) {
+                throw new AssertionError("told '" + told[i] + "', due is '" + wanted[i] + "'");
+            }
+        }
+        due(wanted.length, told.length);
+    }
+
     /** The very class counts: the machine's own exceptions are of classes below the due ones. */
     static void dueThrow(Class<? extends RuntimeException> want, Runnable call) {
         RuntimeException thrown = null;

@@ -100,14 +100,15 @@ final class FaceTests {
         checkNames(FeatureAnalyzer.class, face);
         for (Class<?> inside : FeatureAnalyzer.class.getDeclaredClasses()) {
             checkNames(inside, face);
-            Check.due(true, Modifier.isStatic(inside.getModifiers()));
+            int form = inside.getModifiers();
+            Check.due(false, Modifier.isPublic(form) || Modifier.isProtected(form));
         }
     }
 
     private static void checkNames(Class<?> owner, Set<String> face) {
         for (Method method : owner.getDeclaredMethods()) {
-            boolean isPublic = Modifier.isPublic(method.getModifiers());
-            if (!isPublic && face.contains(method.getName())) {
+            boolean isPrivate = Modifier.isPrivate(method.getModifiers());
+            if (isPrivate && face.contains(method.getName())) {
                 throw new AssertionError(owner.getSimpleName() + "." + method.getName());
             }
         }

@@ -93,9 +93,10 @@ final class PairTests {
         boolean[] shown = new boolean[12 * 12 * 4];
         int count = 0;
         for (int i = 0; i < x.sampleSize(); i++) {
+            int sample = x.sample(i);
             for (int a = 0; a < 12; a++) {
                 for (int b = a + 1; b < 12; b++) {
-                    int kind = (x.sample(i) >> a & 1) * 2 + (x.sample(i) >> b & 1);
+                    int kind = (sample >> a & 1) * 2 + (sample >> b & 1);
                     int pair = (a * 12 + b) * 4 + kind;
                     count += shown[pair] ? 0 : 1;
                     shown[pair] = true;

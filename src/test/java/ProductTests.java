@@ -179,9 +179,11 @@ final class ProductTests {
         for (int i = 0; i < want.length; i++) {
             Check.due(want[i], x.product(i));
         }
-        FeatureAnalyzer y = Lines.flat(11, Lines.MAY);
-        for (int i = 0; i < 2048; i++) {
-            Check.due(2L * i + 1, y.product(i));
+        for (int from = 0; from < 2048; from += 256) {
+            FeatureAnalyzer y = Lines.flat(11, Lines.MAY);
+            for (int i = from; i < from + 256; i++) {
+                Check.due(2L * i + 1, y.product(i));
+            }
         }
     }
 

@@ -10,7 +10,7 @@ final class Suite {
         try {
             body.run();
             passed++;
-        } catch (RuntimeException | AssertionError e) {
+        } catch (RuntimeException | Error e) {
             failures.add(name + ": " + e);
         }
     }
