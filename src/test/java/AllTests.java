@@ -19,7 +19,10 @@ public final class AllTests {
         CallLimitTests.addTo(suite);
         FaceTests.addTo(suite);
         FormTests.addTo(suite);
+        TreeTests.addTo(suite);
+        ReadmeTests.addTo(suite);
         RandomTests.addTo(suite);
+        CiRunTests.addTo(suite);
         for (String failure : suite.failures()) {
             System.out.println("FAILED " + failure);
         }
